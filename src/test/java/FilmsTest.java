@@ -39,6 +39,8 @@ final class FilmsTest {
         Check.same("spoilt at tick 2", x.judge(0, 2), 2);
         x.cell(2, 1, 1);
         Check.same("spoilt at tick 0", x.judge(0, 2), 0);
+        Check.same("spoilt at tick 0, no throw", x.which(0, 2, 0), 0);
+        Check.same("spoilt at tick 0, no law", x.which(0, 2, 1), 0);
         Check.same("a film again", x.film(1, 2), 7);
         Check.same("is a new one", x.which(0, 2, 0), 2);
         Check.same("which laws", x.which(1, 2, 1), 2);
@@ -114,6 +116,16 @@ final class FilmsTest {
         Check.same("apart, part 2", x.apart(0, 2, 2), ComesBack.NO);
         Check.same("apart, part -1", x.apart(0, 2, -1), ComesBack.NO);
         Check.same("a missing sheet may become a film", x.film(0, 0) > 0 ? 1 : 0, 1);
+        // not at 0 0 at tick 0: no flight is so, however it is thrown or filed
+        x.sheet(3, 2, 2);
+        x.cell(3, 0, 1);
+        Check.same("no lift", x.read(0, 0, 3), 0);
+        Check.same("no part of it", x.apart(0, 3, 0), 0);
+        Check.same("no part of it, below", x.apart(0, 3, 1), 1);
+        x.cell(3, 0, 0);
+        Check.same("all lifts", x.read(0, 0, 3), (1 << 21) - 1);
+        Check.same("49 by a hand", x.apart(0, 3, 0), 49 / 7);
+        Check.same("21 lifts, too", x.apart(0, 3, 1), 70 / 7);
         // at 0 0 at ticks 0 and 1: no flight of pace 7 and more is
         Check.same("no part", x.apart(0, 2, 0), 0);
         Check.same("no part, below", x.apart(0, 2, 1), 1);

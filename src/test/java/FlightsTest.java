@@ -8,10 +8,10 @@ final class FlightsTest {
         (speed, spin, tilt, high, stick, wind) -> tilt - 6 + stick,
         (speed, spin, tilt, high, stick, wind) -> 2 + (spin < 10 ? 1 : 0),
         (speed, spin, tilt, high, stick, wind) -> 1 + stick);
-    private static final String WILD_TEXT = "lift 12*(spin=9)-stick+(high<9)*5;turn 9-tilt*5-wind*(speed<7);slow (speed-40)*stick;";
+    private static final String WILD_TEXT = "lift 12*(spin=9)-stick+(high<9)*5;turn 9-tilt*stick-wind*(speed<7);slow (speed-40)*stick;";
     private static final PlainFlight WILD = new PlainFlight(
         (speed, spin, tilt, high, stick, wind) -> 12 * (spin == 9 ? 1 : 0) - stick + (high < 9 ? 1 : 0) * 5,
-        (speed, spin, tilt, high, stick, wind) -> 9 - tilt * 5 - wind * (speed < 7 ? 1 : 0),
+        (speed, spin, tilt, high, stick, wind) -> 9 - tilt * stick - wind * (speed < 7 ? 1 : 0),
         (speed, spin, tilt, high, stick, wind) -> (speed - 40) * stick);
 
     public static void main(String[] args) {
@@ -76,6 +76,12 @@ final class FlightsTest {
         Check.same("way at 5", x.tick(0, 5, 3), (32 - 40 + 64) % 64);
         Check.same("lies at once", x.lies(0), 0);
         Check.same("too high at", x.room(0, 4000, 8), 3);
+        // one climb, then level at 1: up 1 at the first tick (spin 1), then down, then level
+        ComesBack low = new World().stick().toss(0, 0, 0, 1, 0, 1, 0).text("lift 2*(spin=1)-2*(1<high)*(spin<1)+(high<2);turn 0;slow 0;").build();
+        int[] lowHeights = {6, 7, 4, 1, 1, 1};
+        for (int k = 0; k < lowHeights.length; k++) Check.same("low height " + k, low.tick(0, k, 2), lowHeights[k]);
+        Check.same("hovers at 1", low.hovers(0), 37);
+        Check.same("last climb at 1", low.down(0, 1), 1);
         ComesBack never = new World().stick().toss(0, 0, 0, 1, 16, 0, 0).text("lift 0;turn 1;slow 0;").build();
         Check.same("never lies down", never.lies(0), -1);
         ComesBack grounded = new World().stick().toss(0, 0, 0, 1, 0, 0, 0).text("lift 0-9;turn 0-5;slow 0;").build();

@@ -41,6 +41,9 @@ final class HostTest {
         y.film(0, 0);
         y.sheet(0, 2, 4);
         Check.same("all 0 again", y.judge(0, 0), 1);
+        y.cell(0, 0, 7);
+        y.sheet(0, 2, 4);
+        Check.same("the first, too", y.judge(0, 0), 1);
         y.cell(0, 2, 10);
         Check.same("but what was put", y.judge(0, 0), -1);
     }
@@ -54,6 +57,7 @@ final class HostTest {
         Check.same("cell -1", x.cell(0, -1, 0), -12);
         Check.same("cell 3", x.cell(0, 3, 0), -12);
         Check.same("cell least", x.cell(0, Integer.MIN_VALUE, 0), -12);
+        Check.same("cell 0", x.cell(0, 0, 0), 1);
         Check.same("cell 2", x.cell(0, 2, 0), 1);
         int[][] cut = {{0, 0x1234510a, 10}, {0, 200, -56}, {0, -200, 56}, {0, 256 - 30, -30}, {1, 0x7fff000a, 10}, {1, 65536 - 40, -40},
             {1, -65536 + 40, 40}, {1, 65536 + 30, 30}, {2, -30, -30}, {2, 30, 30}, {0, -30, -30}, {1, -30, -30}};
@@ -84,6 +88,9 @@ final class HostTest {
         for (int[] o : outside) Check.same("copy outside", x.copy(0, o[0], 1, o[1], o[2]), -12);
         Check.same("copy of 0 at the ends", x.copy(0, 5, 1, 3, 0), 0);
         Check.same("copy of 3", x.copy(0, 2, 1, 0, 3), 3);
+        row(x, 3, 2, 3);
+        Check.same("copy to sheet 3", x.copy(0, 2, 3, 0, 3), 3);
+        Check.same("copy from sheet 3", x.copy(3, 0, 0, 1, 2), 2);
         ComesBack y = film();
         row(y, 0, 2, 6);
         y.sheet(1, 2, 4);
@@ -129,6 +136,8 @@ final class HostTest {
         Check.same("one came ahead", x.count(2), 4);
         for (int at : new int[] {-1, -2, 7, Integer.MAX_VALUE, Integer.MIN_VALUE}) Check.same("outside, " + at, x.peopleBy(0, 2, at, 1), -12);
         x.sheet(1, 0, 12);
+        x.sheet(3, 1, 1);
+        Check.same("by sheet 3", x.peopleBy(3, 1, 0, 1), -12);
         Check.same("as many as there is room for", x.peopleBy(1, 0, 0, 6), 2);
         Check.same("six", x.count(2), 6);
         Check.same("none more", x.peopleBy(1, 0, 0, 6), 0);

@@ -125,7 +125,8 @@ final class LawTest {
     private static void faults() {
         Object[][] due = {{"", 0}, {"  ", 2}, {"lift", 4}, {"lift ", 5}, {"lift 1", 6}, {"lift 1;", 7}, {"lift 1;turn 1;slow 1;", -1},
             {" lift\n1;turn\n1 ;slow 1; \n", -1}, {"lift 1;turn 1;slow 1", 20}, {"lift 1;turn 1;slow 1; 2", 22}, {"turn 1;lift 1;slow 1;", 0},
-            {"lift 1;slow 1;turn 1;", 7}, {"lift1;turn1;slow1;", -1}, {"lifttilt;turn 1;slow 1;", 0}, {"lift tiltt;turn 1;slow 1;", 5},
+            {"lift 1;slow 1;turn 1;", 7}, {"lift1;turn1;slow1;", -1}, {"lifttilt;turn 1;slow 1;", 0}, {"lift tiltt;turn 1;slow 1;", 5}, {"lift tiltz;turn 1;slow 1;", 5}, {"lift atilt;turn 1;slow 1;", 5},
+            {"lift tilt0;turn 1;slow 1;", 9}, {"lift 0tilt;turn 1;slow 1;", 6},
             {"lift Tilt;turn 1;slow 1;", 5}, {"lift 12345;turn 1;slow 1;", 5}, {"lift 1234;turn 1;slow 1;", -1}, {"lift 00001;", 5},
             {"lift 1 1;turn 1;slow 1;", 7}, {"lift 1 1 ?", 7}, {"lift ;turn 1;slow 1;", 5}, {"lift 1<2<3;turn 1;slow 1;", 8},
             {"lift 1=2<3;", 8}, {"lift 1+not 1;", 7}, {"lift -not 1;", 6}, {"lift (1;", 7}, {"lift 1);", 6}, {"lift ();", 6}, {"lift 1+;", 7},

@@ -93,6 +93,12 @@ final class ParkTest {
         // heights 24 23 22 21 20 19 18 .. and 6 8 10 12 14 16 14 ..
         Check.same("near later", y.near(0, 1, 0), 9);
         Check.same("near later, at", y.near(0, 1, 1), 5);
+        // heights 24 18 12 6 0 and 6 5 4 3 2 ..: nearest at the first one's last tick
+        ComesBack z = new World().stick().stick(new int[] {1, 5, 0, 1}).toss(3, 1, 0, 1, 0, 0, 18).toss(0, 0, 0, 1, 0, 0, 0)
+            .text("lift 0-stick;turn 0;slow 0;").build();
+        Check.same("near at the last", z.near(0, 1, 0), 4);
+        Check.same("near at the last, at", z.near(0, 1, 1), 4);
+        Check.same("near at the last, the other way", z.near(1, 0, 1), 4);
     }
 
     private static void mirror() {
@@ -188,11 +194,14 @@ final class ParkTest {
         Check.same("people are back", x.hit(0), 201);
         Check.same("back once more", x.back(), 3);
         Check.same("wind is back once more", x.wind(1, 1), 34);
+        x.force(1);
         Check.same("a new image", x.image(), 3);
+        x.force(0);
         x.wind(2, 2);
         x.file(2, 0, 0, 0);
         Check.same("back to the new one", x.back(), 3);
         Check.same("its wind", x.wind(0, 0), 11);
+        Check.same("its law", x.count(4), 1);
         Check.same("its piece", x.pieceTold(2, 0, 0), 5);
     }
 

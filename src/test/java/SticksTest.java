@@ -102,6 +102,14 @@ final class SticksTest {
             Check.same("stick told " + what, x.stickTold(1, what), sums[what]);
             Check.same("empty stick told " + what, x.stickTold(0, what), 0);
         }
+        x.piece(0, 201, 1, 1, 1);
+        Check.same("one arm", x.stickTold(0, 4), 1);
+        x.piece(0, 302, 1, 1, 1);
+        x.piece(0, 303, 1, 1, 1);
+        Check.same("two arms", x.stickTold(0, 4), 2);
+        x.piece(0, 4, 1, 1, 1);
+        x.piece(0, 105, 1, 1, 1);
+        Check.same("four arms", x.stickTold(0, 4), 4);
         Check.same("stick told, what 6", x.stickTold(1, 6), -7);
         Check.same("stick told, what -1", x.stickTold(1, -1), -7);
         Check.same("stick told, no stick", x.stickTold(2, 9), -5);
@@ -135,6 +143,8 @@ final class SticksTest {
         Check.same("bad ahead of full", x.toss(0, 1, 1, 0, 0), ComesBack.BAD);
         Check.same("toss, full", x.toss(0, 0, 1, 0, 0), ComesBack.FULL);
         Check.same("tosses", x.count(1), 8);
+        Check.same("the last toss", x.tossTold(7, 0), 5);
+        Check.same("no toss behind it", x.tossTold(8, 0), -5);
     }
 
     private static void tossesTold() {
