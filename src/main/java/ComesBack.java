@@ -808,11 +808,14 @@ public final class ComesBack {
     private static final class Toss {
         static final int THROW = 0, ROUND = 1, SHORT = 2, OVER = 3, UP = 4, HOVER = 5;
         static final int WAYS = 64, MOST_PACE = 60, START_HEIGHT = 6;
-        private static final int[] KIND_ABOVE = {-1, THROW, THROW, ROUND, THROW, OVER};
+        /** By kinds: ROUND, SHORT and UP are THROWs, an OVER is a ROUND, a HOVER an OVER. */
+        private static final int[] KIND_ABOVE = {-1, 0, 0, 1, 0, 3};
 
         final int kind;
         final Stick stick;
         final int way, pace, slant, snap, more;
+        /** Kept, for each tick asks it; of SHORT, UP and HOVER there are no further kinds. */
+        private final boolean round;
 
         Toss(int kind, Stick stick, int way, int pace, int slant, int snap, int more) {
             this.kind = kind;
@@ -822,9 +825,14 @@ public final class ComesBack {
             this.slant = slant;
             this.snap = snap;
             this.more = more;
+            round = isKind(kind, ROUND);
         }
 
         boolean isA(int wanted) {
+            return isKind(kind, wanted);
+        }
+
+        private static boolean isKind(int kind, int wanted) {
             int k = kind;
             for (int n = 0; n < KIND_ABOVE.length && k >= 0 && k < KIND_ABOVE.length; n++) {
                 if (k == wanted) return true;
@@ -839,18 +847,18 @@ public final class ComesBack {
 
         int up(int said, int k) {
             int plain = bound(said, -9, 9);
-            if (isA(UP)) return k < 5 ? plain + more % 4 : plain - 1;
-            return isA(HOVER) ? Math.max(-1, plain) : plain;
+            if (kind == UP) return k < 5 ? plain + more % 4 : plain - 1;
+            return kind == HOVER ? Math.max(-1, plain) : plain;
         }
 
         int turn(int said) {
             int plain = bound(said, -8, 8);
-            return isA(ROUND) ? plain + more % 3 : plain;
+            return round ? plain + more % 3 : plain;
         }
 
         int less(int said, int k) {
             int plain = bound(said, 0, 9);
-            return isA(SHORT) && k >= more ? plain + 2 : plain;
+            return kind == SHORT && k >= more ? plain + 2 : plain;
         }
 
         int wayOff(int by) {
