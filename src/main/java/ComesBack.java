@@ -310,13 +310,13 @@ public final class ComesBack {
         if (t == null) return NO_SUCH;
         if (!within(what, 0, 1)) return BAD_NUMBER;
         aim(flight, t);
-        int bestGo = 0, bestOff = Integer.MAX_VALUE;
+        int bestGo = NONE, bestOff = 0;
         for (int way = 0; way < Toss.WAYS; way += 4) {
             for (int by = -2; by <= 2; by++) {
                 flight.startWay = way;
                 flight.startPace = t.paceOff(by);
                 int off = endAsAimed();
-                if (off < bestOff) {
+                if (bestGo == NONE || off < bestOff) {
                     bestOff = off;
                     bestGo = 100 * way + flight.startPace;
                 }

@@ -13,6 +13,8 @@ import java.util.regex.Pattern;
 
 /** The public face as the document has it, the rules of the language, and the room that calls take. */
 final class FaceTest {
+    private static final Set<String> STATICS = Set.of("int", "long", "boolean", "char", "String", "int[]", "long[]", "char[]", "byte[]");
+
     public static void main(String[] args) throws Exception {
         face(Files.readString(Path.of(System.getProperty("comesback.doc", "../shared/DOC.md"))));
         rules(Files.readString(Path.of(System.getProperty("comesback.source", "src/main/java/ComesBack.java")), StandardCharsets.US_ASCII));
@@ -43,7 +45,7 @@ final class FaceTest {
         for (Field f : ComesBack.class.getDeclaredFields()) {
             boolean told = Set.of("NONE", "BAD", "STATE", "FULL", "NO").contains(f.getName());
             Check.holds("field " + f, told ? Modifier.isPublic(f.getModifiers()) : Modifier.isPrivate(f.getModifiers()));
-            if (Modifier.isStatic(f.getModifiers())) Check.holds("final " + f, Modifier.isFinal(f.getModifiers()));
+            if (Modifier.isStatic(f.getModifiers())) Check.holds("final " + f, Modifier.isFinal(f.getModifiers()) && STATICS.contains(f.getType().getSimpleName()));
         }
         Constructor<?>[] made = ComesBack.class.getDeclaredConstructors();
         Check.holds("one constructor", made.length == 1 && Modifier.isPublic(made[0].getModifiers()) && made[0].getParameterCount() == 0);
@@ -52,7 +54,10 @@ final class FaceTest {
         for (Class<?> c : inside) {
             Check.holds("static and hidden: " + c, Modifier.isStatic(c.getModifiers()) && !Modifier.isPublic(c.getModifiers()) && !Modifier.isProtected(c.getModifiers()));
             int fields = 0;
-            for (Field f : c.getDeclaredFields()) if (!Modifier.isStatic(f.getModifiers())) fields++;
+            for (Field f : c.getDeclaredFields()) {
+                if (Modifier.isStatic(f.getModifiers())) Check.holds("final " + f, Modifier.isFinal(f.getModifiers()) && STATICS.contains(f.getType().getSimpleName()));
+                else fields++;
+            }
             Check.holds("some twenty fields: " + c, fields <= 20);
             for (Method f : c.getDeclaredMethods()) Check.holds("bears no public name: " + f, !names.contains(f.getName()));
         }
@@ -69,6 +74,10 @@ final class FaceTest {
             "var", "Object", "Thread", "Runtime", "random", "nanoTime", "currentTimeMillis", "equals", "hashCode", "toString", "Throwable", "Exception"};
         for (String word : banned) Check.holds("no " + word, !Pattern.compile("\\b" + word + "\\b").matcher(code).find());
         for (String sign : new String[] {"->", "::", "Exact("}) Check.holds("no " + sign, !code.contains(sign));
+        Matcher used = Pattern.compile("\\b(Integer|Long|Math|System|Arrays|String|StringBuilder|List|Character|Boolean|Byte|Short|Double|Float|Objects)\\.(\\w+)").matcher(code);
+        while (used.find()) {
+            Check.holds("the library has " + used.group(), Set.of("bitCount", "abs", "floorMod", "floorDiv", "max", "min", "arraycopy", "compare").contains(used.group(2)));
+        }
         Matcher m = Pattern.compile("\\n( +)(?:(?:public|private|static|final) )*[\\w\\[\\]]+(?: \\w+)?\\(([^)]*)\\) \\{\\n").matcher(code);
         int methods = 0;
         for (int at = 0; m.find(at); at = m.start(2)) {

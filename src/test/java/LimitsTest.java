@@ -6,7 +6,7 @@ import java.util.List;
 
 /**
  * Each argument of each call: the last values that are let in, at both ends, the first that are not, what answers them,
- * which of two refusals comes first, and that a refused call has changed nothing.
+ * which of two refusals comes first, and that what is refused, and what is only asked, has changed nothing.
  */
 final class LimitsTest {
     private static final int MIN = Integer.MIN_VALUE, MAX = Integer.MAX_VALUE;
@@ -320,10 +320,12 @@ final class LimitsTest {
     }
 
     private static void accepted(Row row, long[] a) throws Exception {
-        long answer = call(world(), row.name, a);
+        ComesBack x = world();
+        long answer = call(x, row.name, a);
         boolean refused = false;
         for (long r : row.refusals) refused |= answer == r;
         Check.holds(row.name + Arrays.toString(a) + " is let in, and answered " + answer, !refused);
+        if (!Probe.CHANGING.contains(row.name)) Check.holds(row.name + Arrays.toString(a) + " was asked, and changed nothing", Probe.of(x).equals(UNCHANGED));
     }
 
     private static void refused(Row row) throws Exception {

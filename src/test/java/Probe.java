@@ -1,8 +1,13 @@
 import java.util.ArrayList;
 import java.util.List;
+import java.util.Set;
 
 /** Asks an object all that it tells, so that two objects can be compared; the object is spent by it. */
 final class Probe {
+    /** The calls that may change something; all others only ask. */
+    static final Set<String> CHANGING = Set.of("stick", "piece", "file", "wind", "toss", "feed", "text", "force", "mend", "film",
+        "person", "walks", "image", "back", "sheet", "cell", "copy", "peopleBy");
+
     private Probe() { }
 
     static List<Long> of(ComesBack x) {

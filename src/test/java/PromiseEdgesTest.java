@@ -40,6 +40,7 @@ final class PromiseEdgesTest {
         images();
         copy();
         peopleBy();
+        answersBehindRefusals();
         Check.end();
     }
 
@@ -855,5 +856,39 @@ final class PromiseEdgesTest {
         y.sheet(0, 0, 12);
         Check.same("one of six", y.peopleBy(0, 0, 0, 6), 1);
         Check.same("by none", y.peopleBy(0, 0, 0, 0), 0);
+    }
+
+    private static void answersBehindRefusals() {
+        Check.sentence("(a -1 that is an answer comes behind the refusal of a number)");
+        // floats for ever, without pieces and people: each of these answers -1, but where a number is refused
+        ComesBack x = new World().stick().toss(0, 0, 0, 1, 16, 0, 0).text("lift 1;turn 0;slow 0;").build();
+        for (int r : new int[] {0, 99}) {
+            Check.same("least within " + r, x.least(0, r), -1);
+            Check.same("mend within " + r, x.mend(0, r), -1);
+            Check.same("exchange within " + r, x.exchange(0, r), -1);
+            Check.same("form within " + r, x.form(0, r), -1);
+            Check.same("want within " + r, x.want(1, r), -1);
+        }
+        for (int r : new int[] {-1, 100}) {
+            Check.same("least within " + r, x.least(0, r), -7);
+            Check.same("mend within " + r, x.mend(0, r), -7);
+            Check.same("exchange within " + r, x.exchange(0, r), -7);
+            Check.same("form within " + r, x.form(0, r), -7);
+            Check.same("want within " + r, x.want(1, r), -2);
+        }
+        Check.same("lead", x.lead(0, 0), -1);
+        Check.same("lead, what 2", x.lead(0, 2), -7);
+        Check.same("room", x.room(0, 4000, 999), -1);
+        Check.same("room, too wide", x.room(0, 4001, 999), -7);
+        Check.same("room, too high", x.room(0, 4000, 1000), -7);
+        Check.same("down", x.down(0, 1), -1);
+        Check.same("down, what 3", x.down(0, 3), -7);
+        Check.same("lies", x.lies(0), -1);
+        Check.same("lies, no throw", x.lies(1), -5);
+        Check.same("hit", x.hit(0), -1);
+        Check.same("hit, no throw", x.hit(1), -5);
+        x.film(0, 0);
+        Check.same("judge", x.judge(0, 0), -1);
+        Check.same("judge, no sheet", x.judge(0, 4), -2);
     }
 }

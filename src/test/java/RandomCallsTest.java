@@ -5,12 +5,9 @@ import java.util.Arrays;
 import java.util.Comparator;
 import java.util.List;
 import java.util.Random;
-import java.util.Set;
 
 /** Random runs: no call throws, what is asked changes nothing, and what is refused changes nothing. */
 final class RandomCallsTest {
-    private static final Set<String> CHANGING = Set.of("stick", "piece", "file", "wind", "toss", "feed", "text", "force", "mend", "film",
-        "person", "walks", "image", "back", "sheet", "cell", "copy", "peopleBy");
     private static final long[] EDGES = {Integer.MIN_VALUE, Integer.MAX_VALUE, -1, 0, 1, 99, 100, 101, 4000, 4001, 1000000, -4000, Integer.MAX_VALUE - 1};
     private static final Method[] FACE = face();
 
@@ -57,7 +54,7 @@ final class RandomCallsTest {
             boolean no = answer < 0;
             if (no) refused++;
             else accepted++;
-            if (!CHANGING.contains(m.getName())) continue;
+            if (!Probe.CHANGING.contains(m.getName())) continue;
             String told = m.getName() + Arrays.toString(a);
             Check.same(told + " without what is asked", call(changing, m, a), answer);
             // a fault empties the tape, and people come till a place is outside
@@ -66,7 +63,7 @@ final class RandomCallsTest {
         }
         for (int n = 0; n < 400; n++) {
             Method m = FACE[any.nextInt(FACE.length)];
-            if (CHANGING.contains(m.getName())) continue;
+            if (Probe.CHANGING.contains(m.getName())) continue;
             Object[] a = arguments(any, m);
             long answer = call(all, m, a);
             String told = m.getName() + Arrays.toString(a);
