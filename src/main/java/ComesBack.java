@@ -50,7 +50,7 @@ public final class ComesBack {
         Stick to = stickAt(s);
         if (to == null) return NONE;
         int arm = where / 100, out = where % 100;
-        if (!within(where, 0, 399) || !within(out, 1, 20)) return BAD;
+        if (!within(arm, 0, 3) || !within(out, 1, 20)) return BAD;
         if (!filedWell(Stick.LIFT, lift) || !filedWell(Stick.DRAG, drag)) return BAD;
         if (!filedWell(Stick.WEIGHT, weight)) return BAD;
         if (to.size >= Stick.MOST) return FULL;
@@ -104,11 +104,11 @@ public final class ComesBack {
     public int toss(int kind, int s, int go, int hold, int more) {
         Stick of = stickAt(s);
         if (of == null || !within(kind, Toss.THROW, Toss.HOVER)) return BAD;
-        if (!within(go, 0, 6399) || !within(go % 100, 1, Toss.MOST_PACE)) return BAD;
-        if (!within(hold, 0, 1699) || !within(hold % 100, 0, 60)) return BAD;
-        if (!within(more, 0, 20)) return BAD;
+        int way = go / 100, pace = go % 100, slant = hold / 100, snap = hold % 100;
+        if (!within(way, 0, Toss.WAYS - 1) || !within(pace, 1, Toss.MOST_PACE)) return BAD;
+        if (!within(slant, 0, 16) || !within(snap, 0, 60) || !within(more, 0, 20)) return BAD;
         if (tossCount >= MOST_TOSSES) return FULL;
-        tosses[tossCount] = new Toss(kind, of, go / 100, go % 100, hold / 100, hold % 100, more);
+        tosses[tossCount] = new Toss(kind, of, way, pace, slant, snap, more);
         return tossCount++;
     }
 
