@@ -289,7 +289,7 @@ final class PromiseEdgesTest {
 
     private static void values() {
         Check.sentence("An E is an int (32 bits, wrapping): of or, and, not, <, = 1 or 0 (what is not 0 is true).");
-        // 46341 squared is above 2147483647, 32768 times 65536 is just there
+        // 2147483647 is the last, behind it comes -2147483648
         Object[][] due = {{"9999*9999*21+9999*4760+2758", (int) (9999L * 9999 * 21 + 9999L * 4760 + 2758)}, {"256*256*256*127+256*256*255+256*255+255", 2147483647},
             {"256*256*256*127+256*256*255+256*255+256", -2147483648}, {"256*256*256*256", 0}, {"-(256*256*256*128)", -2147483648},
             {"256*256*256*128-1", 2147483647}, {"256*256*256*128<0", 1}, {"256*256*256*128-1<0", 0}, {"not 256*256*256*256", 1},
@@ -304,7 +304,7 @@ final class PromiseEdgesTest {
         for (int what = 0; what < 3; what++) Check.same("of no pieces, " + what, bare.why(0, 0, what), 0);
         int[][] shares = {{19, 0}, {20, 1}, {39, 1}, {40, 2}};
         for (int[] s : shares) {
-            // out 1 and 19 more
+            // 1 out and 20 out
             ComesBack x = new World().stick(new int[] {1, s[0] % 20, s[0] % 20, 10}, new int[] {120, s[0] / 20, s[0] / 20, 10}).toss(0, 0, 0, 1, 0, 0, 0)
                 .text("lift stick;turn stick;slow stick;").build();
             Check.same("lifts " + s[0] + " by 20", x.why(0, 0, 0), s[1]);
@@ -460,7 +460,7 @@ final class PromiseEdgesTest {
 
     private static void odds() {
         Check.sentence("part 0 above, 1 below the line, in lowest terms.");
-        // way 16, so that ways do not matter but by 4; paces 7 .. 13 end there
+        // ways 16 .. 18 all go north, and end as far off as the pace is
         ComesBack x = fall(17, 10).build();
         for (int v = 0; v <= 3; v++) {
             for (int r = 0; r <= 99; r++) {
@@ -498,10 +498,10 @@ final class PromiseEdgesTest {
 
     private static void exchange() {
         Check.sentence("The first two PIECES (by the lesser, then the other) of unlike LIFTS");
-        // by out: only the last two pieces' exchange lifts to 5 and 4 less: 20 times 20 and more
+        // far out is piece 4 alone: only the one greater lift there, of piece 5, makes the stick's lift more than 13
         int[][] pieces = {{1, 3, 0, 1}, {1, 3, 0, 1}, {1, 3, 0, 1}, {1, 3, 0, 1}, {20, 3, 0, 1}, {2, 4, 0, 1}};
         ComesBack x = new World().stick(pieces).toss(0, 0, 0, 10, 0, 0, 0).text("lift 1-10*(13<stick);turn 0;slow 0;").build();
-        // 12 and 60 and 8 are 80 by 6, 13; with 80 and 6 it is 98, 16
+        // 12, 60 and 8 are 80, by 6 it is 13; exchanged, 12, 80 and 6 are 98, by 6 it is 16
         Check.same("the last two", x.exchange(0, 99), 45);
         ComesBack y = new World().stick(pieces).toss(0, 0, 0, 10, 0, 0, 0).text("lift 1-10*(stick<99);turn 0;slow 0;").build();
         // any will do, and the first of unlike lifts are 0 and 5
@@ -640,7 +640,7 @@ final class PromiseEdgesTest {
             Check.same("none", x.apart(i, 0, 0), 0);
             Check.same("none, below", x.apart(i, 0, 1), 1);
         }
-        // at 13 behind a tick: by three paces more alone
+        // at 13 at tick 1: by three paces more alone
         x.sheet(2, 2, 4);
         x.cell(2, 2, 13);
         Check.same("the hand's alone", x.apart(0, 2, 0), 1);
@@ -657,7 +657,7 @@ final class PromiseEdgesTest {
 
     private static void hit() {
         Check.sentence("100 times the first TICK at which one is HIT, and the first who is; -1: nobody.");
-        // aloft at 6 for 40 ticks, 10 each
+        // 6 high for 40 ticks, 10 further at each
         World w = new World().stick().toss(0, 0, 0, 10, 0, 0, 0).text("lift 1;turn 0;slow 0;");
         Check.same("nobody", w.copy().build().hit(0), -1);
         Check.same("at tick 0", w.copy().person(9, 9).person(2, -2).build().hit(0), 1);

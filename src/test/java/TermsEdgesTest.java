@@ -435,7 +435,7 @@ final class TermsEdgesTest {
         Check.same("of all eighty, off", all.best(0, 1), least);
     }
 
-    /** A stick's flight falls at once if lift and drag of its pieces are as the law wants; else it floats. */
+    /** A throw that falls at once if its stick's lift is as told, else floats. */
     private static World wanting(String lift, int[]... pieces) {
         return new World().stick(pieces).toss(0, 0, 0, 10, 0, 0, 0).text("lift 1-10*(" + lift + ");turn 0;slow stick;");
     }
@@ -455,7 +455,7 @@ final class TermsEdgesTest {
             Check.same("no lift above 20 from " + lift, above.least(0, 99), -1);
             Check.same("no lift below 0 from " + lift, below.least(0, 99), -1);
         }
-        // of drag: pace 10, slowed by stick at tick 0, then down: at 10 and 10 less drag
+        // of drag: two ticks of pace 10, but if drag is as wanted the second one is slowed by 9
         for (int drag = 0; drag <= 20; drag++) {
             for (int wanted = 0; wanted <= 20; wanted++) {
                 if (drag == wanted) continue;
@@ -463,7 +463,6 @@ final class TermsEdgesTest {
                     .text("lift 0-2;turn 0;slow 9*(stick=" + wanted + ");");
                 ComesBack x = w.build();
                 boolean near = Math.abs(drag - wanted) <= 3;
-                // slowed: at 11; not slowed: at 20
                 Check.same("off at first", x.fly(0, 1), 20);
                 Check.same("drag " + drag + " to " + wanted, x.least(0, 11), near ? 100 + wanted : -1);
             }
